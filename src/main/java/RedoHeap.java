@@ -146,7 +146,13 @@ public final class RedoHeap {
             throw new IllegalStateException("the power is on");
         }
         disk.powerUp();
-        int found = disk.read(GENERATION) == 0L ? format() : log.recover();
+        int found = 0;
+        if (disk.read(GENERATION) == 0L) {
+            format();
+        } else {
+            found = log.findCommits();
+            log.carryOut(log.dirtyWords());
+        }
         if (!disk.isOn()) {
             return OFF;
         }
@@ -252,12 +258,11 @@ public final class RedoHeap {
     }
 
     /** The generation comes last: without it the disk counts as not formatted. */
-    private int format() {
+    private void format() {
         if (disk.write(HEAP_START, 2L * LARGEST_BODY) && disk.write(ROOT, 0L) && disk.write(GENERATION, 1L)) {
             disk.settleAll();
             log.forget();
         }
-        return 0;
     }
 
     private static boolean isWord(int i) {
@@ -437,17 +442,25 @@ public final class RedoHeap {
             return true;
         }
 
-        /** Answers how many commits were found; the power may have gone meanwhile. */
-        int recover() {
+        /** Goes through the log when the power is back; answers how many commits are in it. */
+        int findCommits() {
             forget();
             for (int size = commitSize(0); size > 0 && used + size <= LOG_WORDS; size = commitSize(used)) {
                 used += size;
                 commits++;
                 lastNumber = (int) (-1L - disk.read(LOG_START + used - 1));
             }
-            int found = commits;
-            carryOut(dirtyWords());
-            return found;
+            return commits;
+        }
+
+        /** How many words the log has up to its last one that is not 0: a torn commit's too. */
+        int dirtyWords() {
+            for (int n = LOG_WORDS; n > 0; n--) {
+                if (disk.read(LOG_START + n - 1) != 0L) {
+                    return n;
+                }
+            }
+            return 0;
         }
 
         /** Nothing is in the log; the last commit is the one that the disk tells. */
@@ -500,15 +513,6 @@ public final class RedoHeap {
 
         private long front(int d) {
             return FRONT_STEP * disk.read(GENERATION) + d;
-        }
-
-        private int dirtyWords() {
-            for (int n = LOG_WORDS; n > 0; n--) {
-                if (disk.read(LOG_START + n - 1) != 0L) {
-                    return n;
-                }
-            }
-            return 0;
         }
     }
 

@@ -9,6 +9,7 @@ public final class PowerTest {
         promise15Format();
         promise15OpenLosesPower();
         promise15TornCommit();
+        promise15FullLog();
         promise16Word();
         promise19Count();
         Check.done("PowerTest");
@@ -42,6 +43,7 @@ public final class PowerTest {
         x.begin();
         x.take(1);
         Check.due("13: it does not go", x.commit(true), 1);
+        Check.due("13: nothing is told still", x.power(0, 0), 0);
         x.power(100, 1);
         x.cut(0);
         Check.due("13: a cut ends it", x.power(0, 0), 0);
@@ -200,6 +202,29 @@ public final class PowerTest {
         Check.due("15: WORD 2 is as it is", x.word(2), 2);
         Check.due("15: generation", x.word(0), 4);
         Check.due("15: value", x.get(177, 0), 8);
+    }
+
+    private static void promise15FullLog() {
+        RedoHeap x = LogTest.withBlock();
+        LogTest.change(x, 77, 4);
+        x.commit(true);
+        LogTest.change(x, 1, 5);
+        x.commit(true);
+        x.cut(0);
+        Check.due("15: both of a full log are found", x.open(), 2);
+        Check.due("15: the last one's value", x.get(177, 0), 5);
+        Check.due("15: the first one's last value", x.get(177, 76), 4);
+        Check.due("15: the log's end is clear", x.word(175), 0);
+        LogTest.change(x, 79, 6);
+        x.commit(false);
+        x.cut(160);
+        Check.due("15: one that fills the log is found", x.open(), 1);
+        Check.due("15: its last value", x.get(177, 78), 6);
+        LogTest.change(x, 79, 7);
+        x.commit(false);
+        x.cut(159);
+        Check.due("15: not without its back", x.open(), 0);
+        Check.due("15: its last value", x.get(177, 78), 6);
     }
 
     private static void promise16Word() {
