@@ -66,6 +66,13 @@ final class Check {
         }
     }
 
+    /** Both objects show and do the same thereafter. */
+    static void alike(String what, Supplier<RedoHeap> one, Supplier<RedoHeap> other) {
+        for (int part = 0; part < Probe.PARTS; part++) {
+            due(what + ": part " + part, Probe.ask(one.get(), part), Probe.ask(other.get(), part));
+        }
+    }
+
     /** The answer as a text; exactly the class counts, not one above or below it. */
     static String said(Call call) {
         try {

@@ -7,6 +7,7 @@ public final class LogTest {
         promise9CommitLosesPower();
         promise10Sync();
         promise12Checkpoint();
+        promise12CheckpointOfFullLog();
         promise12CheckpointLosesPower();
         promise17Block();
         promise18Told();
@@ -175,6 +176,26 @@ public final class LogTest {
         Check.due("12: commits", x.told(4), 0);
         Check.due("12: told generation", x.told(5), 2);
         Check.due("12: told number", x.told(6), 2);
+    }
+
+    private static void promise12CheckpointOfFullLog() {
+        RedoHeap x = Heaps.withBlock();
+        for (int i = 0; i < 40; i++) {
+            Heaps.commit(x, 1, i + 1, false);
+        }
+        Check.due("12: a full log waits", x.count(6), 160);
+        int writes = x.count(2);
+        Check.due("12: as many commits as there can be", x.checkpoint(), 40);
+        Check.due("12: writes", x.count(2) - writes, 40 + 1 + 160 + 1);
+        Check.due("12: the last one's value", x.word(177), 40);
+        Check.due("12: number", x.word(2), 41);
+        Check.due("12: the log's last word", x.word(175), 0);
+        Heaps.commit(x, 79, -1, false);
+        writes = x.count(2);
+        Check.due("12: as many words as there can be", x.checkpoint(), 1);
+        Check.due("12: writes", x.count(2) - writes, 79 + 1 + 160 + 1);
+        Check.due("12: the last word in its place", x.word(255), -1);
+        Check.due("12: the one behind it", x.word(256), 0);
     }
 
     private static void promise12CheckpointLosesPower() {

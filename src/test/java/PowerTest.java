@@ -4,7 +4,9 @@ public final class PowerTest {
         promise1New();
         promise13Power();
         promise13PowerKeeps();
+        promise13PowerAtItsLimits();
         promise14Cut();
+        promise14CutOfFullLog();
         promise15Open();
         promise15Format();
         promise15OpenLosesPower();
@@ -70,6 +72,38 @@ public final class PowerTest {
         Check.throwsState("13: off", () -> x.told(0));
         Check.due("13: found", x.open(), 1);
         Check.due("13: value", x.get(177, 0), 5);
+    }
+
+    private static void promise13PowerAtItsLimits() {
+        RedoHeap x = Heaps.withBlock();
+        x.power(5000, 5000);
+        Check.due("13: far off", Heaps.commit(x, 79, 1, true), 2);
+        Check.due("13: 160 writes nearer", x.power(161, 5000), 4840);
+        Check.due("13: a checkpoint of 241", x.checkpoint(), -2);
+        Check.due("13: all that waited are kept", x.count(5), 0);
+        Check.due("13: 80 before the sync, 81 words of the log", x.word(16 + 80), 0);
+        Check.due("13: the next one is not written", x.word(16 + 81) != 0, true);
+        RedoHeap y = Heaps.withBlock();
+        y.power(1, 0);
+        y.power(0, 5000);
+        Check.due("13: 0 writes: it does not go", Heaps.commit(y, 1, 1, true), 2);
+        y.power(1, 0);
+        Check.due("13: a commit without changes writes nothing", Heaps.commit(y, 0, 1, true), 2);
+        y.sync();
+        Check.due("13: nor does a sync", y.power(1, 0), 1);
+        Check.due("13: a checkpoint does: it goes at the first one", y.checkpoint(), -2);
+    }
+
+    private static void promise14CutOfFullLog() {
+        for (int k : new int[] {0, 1, 159, 160, 161, 5001}) {
+            RedoHeap x = Heaps.withBlock();
+            Heaps.commit(x, 79, 7, false);
+            Check.due("14: a full log waited", x.cut(k), 160);
+            Check.due("14: lost", x.count(5), Math.max(0, 160 - k));
+            Check.due("14: the front, kept " + k, x.word(16), k >= 1 ? 2 * 4096 + 79 : 0);
+            Check.due("14: the back, kept " + k, x.word(175), k >= 160 ? -3 : 0);
+            Check.due("14: found", x.open(), k >= 160 ? 1 : 0);
+        }
     }
 
     private static void promise14Cut() {

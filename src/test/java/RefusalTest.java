@@ -31,6 +31,7 @@ public final class RefusalTest {
         promise18Told();
         promise19Count();
         theOneNamedFirst();
+        nothingButACheckpoint();
         Check.done("RefusalTest");
     }
 
@@ -432,5 +433,26 @@ public final class RefusalTest {
         throwsOff("cut(-1)", x -> x.cut(-1));
         throwsOff("block(-1, 3)", x -> x.block(-1, 3));
         throwsOff("told(8)", x -> x.told(8));
+    }
+
+    private static void nothingButACheckpoint() {
+        Check.sentence("a call that throws, or answers NONE, changes nothing (but for a CHECKPOINT of a COMMIT).");
+        for (int n : new int[] {80, 96}) {
+            Check.alike("a refused commit is a checkpoint", () -> refusedCommit(n), () -> afterCheckpoint(n));
+        }
+    }
+
+    private static RedoHeap refusedCommit(int n) {
+        RedoHeap x = idle();
+        Heaps.change(x, n, 6);
+        Check.due("commit", x.commit(true), -1);
+        return x;
+    }
+
+    private static RedoHeap afterCheckpoint(int n) {
+        RedoHeap x = idle();
+        x.checkpoint();
+        Heaps.change(x, n, 6);
+        return x;
     }
 }

@@ -416,6 +416,10 @@ public final class TermsOfHeapTest {
         Check.throwsArgument("what became a part is no block", () -> x.give(183));
         x.take(12);
         Check.due("its head is a word of the body", x.get(177, 5), 12);
+        RedoHeap y = Heaps.row(1, 1, 843);
+        y.give(179);
+        Check.due("a smallest one behind a smallest one", y.give(177), 3);
+        Check.due("blocks", Probe.blocks(y), "[177 3 free][181 843 used]");
     }
 
     private static void giveWithTheOneBefore() {
@@ -429,6 +433,16 @@ public final class TermsOfHeapTest {
         Check.due("blocks", Probe.blocks(x), "[177 29 free][207 817 used]");
         Check.due("the heap's last one", x.give(207), 847);
         Check.due("all is one", Probe.blocks(x), "[177 847 free]");
+        RedoHeap y = Heaps.row(1, 1, 1, 841);
+        y.give(177);
+        Check.due("a smallest one before a smallest one", y.give(179), 3);
+        Check.due("blocks", Probe.blocks(y), "[177 3 free][181 1 used][183 841 used]");
+        Check.due("then one behind it", y.give(181), 5);
+        RedoHeap z = Heaps.row(1, 1, 1, 841);
+        z.give(177);
+        z.give(181);
+        Check.due("smallest ones on both sides", z.give(179), 5);
+        Check.due("blocks", Probe.blocks(z), "[177 5 free][183 841 used]");
     }
 
     private static void giveIsOneChange() {
