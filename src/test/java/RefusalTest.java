@@ -11,6 +11,7 @@ public final class RefusalTest {
         promise2Begin();
         promise3Take();
         promise3TakeNone();
+        promise3TakeNoneWithAChangedRest();
         promise4Give();
         promise4GiveNone();
         promise5Set();
@@ -133,6 +134,34 @@ public final class RefusalTest {
         Check.due("one head, with 95", Heaps.changing(95).take(646), 378);
         Check.due("as much as is free", busy().take(642), 382);
         Check.due("as much as one part has", freeInTwoParts().take(5), 177);
+    }
+
+    private static void promise3TakeNoneWithAChangedRest() {
+        Check.sentence("a call that throws, or answers NONE, changes nothing (but for a CHECKPOINT of a COMMIT).");
+        Check.refused("only the new head has a change, with 96", () -> changeInFree(96), x -> x.take(4), "-1");
+        RedoHeap x = changeInFree(96);
+        x.take(4);
+        x.give(177);
+        Check.due("all again, by a head that has a change", x.take(26), 177);
+        Check.due("where the new head would have been", x.get(177, 10), 5);
+        Check.due("with 95", changeInFree(95).take(4), 183);
+    }
+
+    /** So many changes; in a block of 20 at 183 that is not used, and has none of its head, WORD 187 became 5. */
+    private static RedoHeap changeInFree(int n) {
+        RedoHeap x = Heaps.row(5, 20, 200);
+        x.give(183);
+        x.commit(true);
+        x.begin();
+        x.give(177);
+        x.take(26);
+        x.set(177, 10, 5);
+        x.give(177);
+        x.take(5);
+        for (int i = x.told(7); i < n; i++) {
+            x.set(204, i, 5);
+        }
+        return x;
     }
 
     private static RedoHeap freeInTwoParts() {
